@@ -752,10 +752,10 @@ public final class BeamCuts {
     /** The text, and the things that it tells once it is read. */
     private static final class Plan {
         static final int NO_FAULT = -1;
-        static final char CUTTING = 'c';
-        static final char LEADING = 'l';
-        static final char WAITING = 'w';
-        static final char CLEANING = 'k';
+        static final int CUTTING = 0;
+        static final int LEADING = 1;
+        static final int WAITING = 2;
+        static final int CLEANING = 3;
         static final int MOST_LETTERS = 60;
         // A thing has at least one letter, and between two stands a ";".
         static final int MOST_THINGS = 30;
@@ -763,7 +763,7 @@ public final class BeamCuts {
         static final int GREATEST_CORNER = 3;
 
         private final char[] letters;
-        private final char[] kinds;
+        private final int[] kinds;
         private final int[] firsts;
         private final int[] seconds;
         private int length;
@@ -772,7 +772,7 @@ public final class BeamCuts {
 
         Plan() {
             letters = new char[MOST_LETTERS];
-            kinds = new char[MOST_THINGS];
+            kinds = new int[MOST_THINGS];
             firsts = new int[MOST_THINGS];
             seconds = new int[MOST_THINGS];
             length = 0;
@@ -814,29 +814,24 @@ public final class BeamCuts {
             return at;
         }
 
-        /** Reads one thing into the row behind those that were read; if it has a fault, stays there. */
+        /** Reads one thing behind those that were read; where it has a fault, the reading stays. */
         private boolean readThing() {
-            if (at >= length) {
-                return false;
+            if (readLetter('c')) {
+                kinds[size] = CUTTING;
+                return readNumber(firsts, 0, GREATEST_SHAPE);
             }
-            char kind = letters[at];
-            kinds[size] = kind;
-            at++;
-            switch (kind) {
-                case CUTTING:
-                    return readNumber(firsts, 0, GREATEST_SHAPE);
-                case LEADING:
-                    return readNumber(firsts, 0, GREATEST_SHAPE)
-                            && readLetter('@')
-                            && readNumber(seconds, 0, GREATEST_CORNER);
-                case WAITING:
-                    return readNumber(firsts, 1, Sheet.LONGEST_WAIT);
-                case CLEANING:
-                    return true;
-                default:
-                    at--;
-                    return false;
+            if (readLetter('l')) {
+                kinds[size] = LEADING;
+                return readNumber(firsts, 0, GREATEST_SHAPE)
+                        && readLetter('@')
+                        && readNumber(seconds, 0, GREATEST_CORNER);
             }
+            if (readLetter('w')) {
+                kinds[size] = WAITING;
+                return readNumber(firsts, 1, Sheet.LONGEST_WAIT);
+            }
+            kinds[size] = CLEANING;
+            return readLetter('k');
         }
 
         private boolean readLetter(char letter) {

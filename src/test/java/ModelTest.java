@@ -1,7 +1,8 @@
 /** Long runs of calls, the same each time, whose answers are compared with those of the plain model. */
 public final class ModelTest {
     private static final int RUNS = 600;
-    private static final int CALLS = 512;
+    // What is asked at the end takes some 160 calls, a step at most some 40; an object is used for 512.
+    private static final int CALLS = 300;
     private static final int[] ODD = {Integer.MIN_VALUE, -100, -1, 12, 13, 100, 1000, Integer.MAX_VALUE};
     private static final String LETTERS = "clwk;@0123456789 x\u0000\u00ff\uffff";
 
@@ -9,6 +10,7 @@ public final class ModelTest {
     private BeamCuts x;
     private PlainModel y;
     private String where;
+    private int calls;
 
     private ModelTest(int run) {
         seed = 7919L * run + 12345;
@@ -28,6 +30,7 @@ public final class ModelTest {
     }
 
     private void same(String call, int got, int want) {
+        calls++;
         Due.due(where + call, got, want);
     }
 
@@ -36,8 +39,8 @@ public final class ModelTest {
         int row = pick(0, 23);
         int width = pick(2, below(3) == 0 ? 32 : 9);
         int height = pick(2, below(3) == 0 ? 24 : 9);
-        if (below(3) == 0 && x.count(0) > 0) {
-            inner(below(x.count(0)));
+        if (below(3) == 0 && y.count(0) > 0) {
+            inner(below(y.count(0)));
             return;
         }
         same("tell(" + column + ", " + row + ", " + width + ", " + height + ")",
@@ -47,10 +50,10 @@ public final class ModelTest {
     /** Tells a shape that just fits into one, or nearly. */
     private void inner(int outer) {
         int margin = below(5) == 0 ? 0 : 1;
-        int column = x.shape(outer, 0) + margin + below(2);
-        int row = x.shape(outer, 1) + margin;
-        int width = x.shape(outer, 2) - 2 - below(3);
-        int height = x.shape(outer, 3) - 2 - below(3);
+        int column = y.shape(outer, 0) + margin + below(2);
+        int row = y.shape(outer, 1) + margin;
+        int width = y.shape(outer, 2) - 2 - below(3);
+        int height = y.shape(outer, 3) - 2 - below(3);
         same("tell(" + column + ", " + row + ", " + width + ", " + height + ")",
             x.tell(column, row, width, height), y.tell(column, row, width, height));
     }
@@ -105,7 +108,7 @@ public final class ModelTest {
             case 4: same("setLead(" + a + ", " + b + ")", x.setLead(a, b), y.setLead(a, b)); break;
             case 5: set(); break;
             case 6: case 7: case 8: same("cut(" + a + ")", x.cut(a), y.cut(a)); break;
-            case 9: int best = x.best(); same("cut(" + best + ")", x.cut(best), y.cut(best)); break;
+            case 9: int best = y.best(); same("cut(" + best + ")", x.cut(best), y.cut(best)); break;
             case 10: int t = pick(1, 40); same("pause(" + t + ")", x.pause(t), y.pause(t)); break;
             case 11: same("clean()", x.clean(), y.clean()); break;
             case 12: plan(); break;
@@ -146,9 +149,9 @@ public final class ModelTest {
     private void run(int run) {
         x = new BeamCuts();
         y = new PlainModel();
-        // What is asked at the end takes some 170 calls, a plan some 30.
-        for (int call = 0; call < CALLS - 400; call++) {
-            where = "model run " + run + ", step " + call + ": ";
+        calls = 0;
+        for (int step = 0; calls < CALLS; step++) {
+            where = "model run " + run + ", step " + step + ": ";
             change();
             ask();
         }
