@@ -347,11 +347,11 @@ public final class BeamCuts {
         private final Shape[] shapes;
         private final int[] heats;
         private final int[] settings;
-        private int told;
+        int told;
         private int column;
         private int row;
         private int dirt;
-        private int ticks;
+        int ticks;
         private int burningTicks;
         private int cuts;
 
@@ -766,8 +766,8 @@ public final class BeamCuts {
         private final int[] kinds;
         private final int[] firsts;
         private final int[] seconds;
-        private int length;
-        private int size;
+        int length;
+        int size;
         private int at;
 
         Plan() {

@@ -96,6 +96,8 @@ public final class PromiseTest {
         due("2: at the lower right corner", x.tell(30, 22, 2, 2), 7);
         tellByCutOrLost();
         tellTwelve();
+        tellAnew();
+        tellRefused();
     }
 
     private static void tellByCutOrLost() {
@@ -130,6 +132,47 @@ public final class PromiseTest {
         due("2: the twelfth is kept", x.keep(), 12);
     }
 
+    private static void tellAnew() {
+        BeamCuts x = new BeamCuts();
+        x.keep();
+        x.tell(0, 0, 4, 4);
+        x.setLead(0, 2);
+        x.cut(0);
+        due("2: what was told tilted", x.count(4), 1);
+        x.restore();
+        due("2: there are no shapes now", x.count(0) + x.count(1) + x.count(2) + x.count(3) + x.count(4), 0);
+        due("2: told anew", x.tell(9, 9, 3, 3), 0);
+        due("2: the lead of a shape told anew", x.shape(0, 4), 0);
+        due("2: its condition", x.shape(0, 5), 0);
+        due("2: it has not tilted", x.shape(0, 9), 0);
+        due("2: its rank", x.shape(0, 10), NONE);
+        x.restore();
+        due("2: none is whole", x.count(1), 0);
+        due("2: none is left whole", x.allTakes(), 0);
+        x.pause(7);
+        x.tell(9, 9, 3, 3);
+        due("2: undo of tell alone", x.undo(), 3);
+        due("2: the pause before it stays", x.count(8), 7);
+    }
+
+    /** A shape that is refused leaves nothing, wherever it was tried. */
+    private static void tellRefused() {
+        BeamCuts x = new BeamCuts();
+        x.tell(2, 2, 12, 12);
+        x.tell(4, 4, 3, 3);
+        x.cut(1);
+        due("2: refused beside a cut one", x.tell(6, 6, 3, 3), NOT_POSSIBLE);
+        due("2: none is whole inside", x.reason(0), 0);
+        due("2: one is inside", x.shape(0, 7), 2);
+        due("2: refused around", x.tell(3, 3, 6, 6), NOT_POSSIBLE);
+        due("2: its outer shape", x.shape(1, 6), 0);
+        due("2: shapes", x.count(0), 2);
+        x.tell(6, 6, 3, 3);
+        x.set(3, 0);
+        due("2: none is lost", x.cut(0), 0);
+        due("2: all are cut", x.allTakes(), 0);
+    }
+
     private static void promise3() {
         BeamCuts x = row(2);
         due("3: setLead(0, 2)", x.setLead(0, 2), 0);
@@ -140,6 +183,13 @@ public final class PromiseTest {
         due("3: it is so already", x.setLead(0, 3), NONE);
         due("3: it is so at first", x.setLead(1, 0), NONE);
         due("3: NONE is not recorded", x.count(17), 4);
+        due("3: undo", x.undo(), 3);
+        due("3: the lead before it", x.shape(0, 4), 2);
+        x.pause(6);
+        due("3: behind another act", x.setLead(0, 3), 2);
+        x.undo();
+        due("3: the act before it stays", x.count(8), 6);
+        x.setLead(0, 3);
         int[][] unknown = {{-1, 0}, {2, 0}, {12, 0}, {0, -1}, {0, 4}, {GREATEST, 1}, {LEAST, 1}, {0, LEAST},
             {0, GREATEST}};
         for (int[] u : unknown) {
@@ -289,6 +339,18 @@ public final class PromiseTest {
         due("5: cut ones", x.count(2), 2);
 
         x = new BeamCuts();
+        x.tell(3, 3, 3, 3);
+        x.tell(2, 2, 8, 8);
+        x.tell(0, 0, 20, 20);
+        due("5: one told before is inside", x.cut(1), -13);
+        due("5: the outer shape told later", x.shape(0, 6), 1);
+        due("5: one told first as outer shape's", x.shape(1, 6), 2);
+        due("5: inside the greatest one", x.shape(2, 7), 3);
+        x.set(3, 0);
+        due("5: one told before is lost", x.cut(1), 1);
+        due("5: it is lost", x.shape(0, 5), 2);
+
+        x = new BeamCuts();
         x.set(3, 0);
         x.tell(0, 0, 20, 20);
         x.tell(1, 1, 12, 12);
@@ -324,6 +386,13 @@ public final class PromiseTest {
         due("5: a hot square at the end of its edge", x.cut(2), -14);
         x.set(2, 4);
         due("5: a heat not above the limit", x.cut(2), 0);
+
+        x = unfading();
+        x.tell(0, 0, 2, 2);
+        x.tell(7, 7, 4, 4);
+        x.set(2, 3);
+        x.cut(0);
+        due("5: a hot square with one field of its edge", x.cut(1), -14);
     }
 
     private static void cutTilting() {
@@ -394,6 +463,7 @@ public final class PromiseTest {
         due("7: again", x.clean(), NONE);
         due("7: it is undone", x.undo(), 3);
         due("7: the dirt is back", x.count(5), 3);
+        due("7: the setting before it stays", x.count(13), 3);
         x.undo();
         due("7: the ticks of cleaning at first", x.clean() + x.count(8), 3 + 48);
         BeamCuts y = row(5);
@@ -473,6 +543,13 @@ public final class PromiseTest {
         due("10: thirty things", Due.perform(x, many.toString()), 30);
         due("10: an end too early at 60", Due.perform(x, many + ";"), -160);
         due("10: a faulty text is not recorded", x.count(17), 1);
+        Due.perform(x, "c11");
+        due("10: letters of an earlier text are gone", Due.perform(x, "c"), -101);
+        String waits = "w999;".repeat(11);
+        due("10: sixty letters", Due.perform(x, waits + "w99;k"), 13);
+        due("10: a number that ends too early at 60", Due.perform(x, waits + "w99;w"), -160);
+        due("10: a number that ends at 60", Due.perform(x, waits + "k;w10"), 13);
+        due("10: a fault at the last letter", Due.perform(x, waits + "w9999"), -159);
         due("10: shapes of two digits", Due.perform(row(12), "c11;c10;l9@3;c9"), 4);
     }
 
@@ -899,8 +976,8 @@ public final class PromiseTest {
         due("22: the inner one first", x.allTakes(), 20 + 72 + 20 + 88);
         x.set(3, 0);
         due("22: lost ones are not left whole", x.allTakes(), 88);
-        x = row(5);
-        due("22: with a lens that gets dirty", x.allTakes(), 8 + 3 * 10 + 14);
+        due("22: with a lens that gets dirty", row(5).allTakes(), 8 + 3 * 10 + 14);
+        due("22: all twelve", row(12).allTakes(), 11 * 2 + 4 * 8 + 4 * 12 + 4 * 16);
     }
 
     private static void promise23() {
