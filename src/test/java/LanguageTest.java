@@ -21,7 +21,8 @@ public final class LanguageTest {
         "int allTakes()", "int count(int)");
     private static final Set<String> CONSTANTS = Set.of("UNKNOWN", "BAD_VALUE", "FULL", "NOT_POSSIBLE", "NONE",
         "REFUSED");
-    private static final Set<String> LIBRARY = Set.of("Math.min", "Math.max", "Math.abs");
+    private static final Set<String> LIBRARY = Set.of("List.of", "System.arraycopy", "Arrays.copyOf",
+        "Arrays.copyOfRange", "Arrays.fill");
 
     private LanguageTest() {
     }
@@ -90,19 +91,35 @@ public final class LanguageTest {
         String text = Files.readString(PROGRAM, StandardCharsets.UTF_8);
         holds("signs are 1 to 127", text.chars().allMatch(sign -> sign < 128));
         String code = text.replaceAll("(?s)/\\*.*?\\*/", " ").replaceAll("//[^\n]*", " ");
-        String[] words = {"throw", "throws", "try", "catch", "finally", "synchronized", "assert", "import", "package",
-            "Object", "System", "Thread", "equals", "hashCode", "toString", "volatile", "transient", "native", "var",
-            "Exception", "protected", "goto", "strictfp"};
+        String[] words = {"throw", "throws", "try", "catch", "finally", "synchronized", "assert", "package", "Object",
+            "Thread", "hashCode", "volatile", "transient", "native", "Exception", "protected", "strictfp"};
         for (String word : words) {
             holds("rules 3 to 6: no \"" + word + "\"", !Pattern.compile("\\b" + word + "\\b").matcher(code).find());
         }
-        holds("rule 2: no lambda and no method reference", !code.contains("->") && !code.contains("::"));
+        holds("rule 2: no lambda", !Pattern.compile("(\\w|\\)) *-> *[^;]*[;)]").matcher(withoutCases(code)).find());
+        holds("rule 2: no method reference", !code.contains("::"));
         holds("rule 5: no initialiser block", !Pattern.compile("static\\s*\\{").matcher(code).find());
-        Matcher library = Pattern.compile("\\b(Math|Integer|Long|Arrays|String|List)\\.(\\w+)").matcher(code);
+        Matcher library = Pattern.compile("\\b(Math|Integer|Long|Arrays|String|List|System)\\.(\\w+)").matcher(code);
         while (library.find()) {
-            holds("rule 4: " + library.group(), LIBRARY.contains(library.group()));
+            holds("rule 4: " + library.group(), isAllowed(library.group(1), library.group(2)));
+        }
+        Matcher imported = Pattern.compile("\\bimport\\s+([\\w.*]+)").matcher(code);
+        while (imported.find()) {
+            holds("rule 4: " + imported.group(),
+                imported.group(1).matches("java\\.util\\.(ArrayList|List|Arrays|Iterator)"));
         }
         lengths(text.split("\n"));
+    }
+
+    /** Static functions over int and long, but those whose name ends in Exact; of other classes what is listed. */
+    private static boolean isAllowed(String owner, String name) {
+        boolean isNumbers = owner.equals("Math") || owner.equals("Integer") || owner.equals("Long");
+        return isNumbers ? !name.endsWith("Exact") && !name.equals("random") : LIBRARY.contains(owner + "." + name);
+    }
+
+    /** The arrows of a switch are no lambdas. */
+    private static String withoutCases(String code) {
+        return code.replaceAll("(case [^:;{}]*|default) *->", " ");
     }
 
     /** Methods begin with a line that ends in "{" and end with "}" as far in. */
